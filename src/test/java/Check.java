@@ -1,0 +1,55 @@
+import java.util.function.LongSupplier;
+
+/** Counts and prints the calls whose answer is not the one that is due. */
+final class Check {
+    private int calls;
+    private int wrong;
+
+    void answers(String call, long due, LongSupplier made) {
+        String got;
+        try {
+            got = Long.toString(made.getAsLong());
+        } catch (RuntimeException e) {
+            got = e.getClass().getName();
+        }
+        same(call, Long.toString(due), got);
+    }
+
+    /** The class must be the very one: a subclass would be an exception that threw itself. */
+    void refuses(String call, Class<? extends RuntimeException> due, Runnable made) {
+        String got = "no exception";
+        try {
+            made.run();
+        } catch (RuntimeException e) {
+            got = e.getClass().getName();
+        }
+        same(call, due.getName(), got);
+    }
+
+    void holds(String what, boolean is) {
+        same(what, "true", Boolean.toString(is));
+    }
+
+    void same(String call, String due, String got) {
+        calls++;
+        if (!due.equals(got)) {
+            wrong++;
+            System.out.println(call + ": due is " + due + ", got " + got);
+        }
+    }
+
+    void hasBytes(String what, SortedRun run, byte[] due) {
+        answers(what + ": size()", due.length, run::size);
+        for (int i = 0; i < due.length; i++) {
+            int place = i;
+            answers(what + ": at(" + i + ")", due[i] & 255, () -> run.at(place));
+        }
+    }
+
+    void end() {
+        System.out.println(calls + " checks, " + wrong + " wrong");
+        if (wrong != 0 || calls == 0) {
+            System.exit(1);
+        }
+    }
+}
