@@ -316,7 +316,7 @@ public final class SortedRun {
             return next >= end;
         }
 
-        /** The next NUMBER; if it is not right 0, and that is remembered till reading starts anew. */
+        /** The next NUMBER, or 0 if it is not right: that is kept till reading starts anew. */
         long takeNumber() {
             long number = 0;
             for (int i = 0; i < MOST_NUMBER_BYTES && next < end; i++) {
@@ -400,7 +400,7 @@ public final class SortedRun {
             for (int b = 0; b < blocks; b++) {
                 long length = table.takeNumber();
                 long foldedKey = table.takeNumber();
-                if (!fitsIndex(length) || !fitsIndex(foldedKey) || length > indexStart - end) {
+                if (!fitsIndex(length) || !fitsIndex(foldedKey)) {
                     return false;
                 }
                 end += length;

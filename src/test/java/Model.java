@@ -92,8 +92,8 @@ final class Model {
     }
 
     int key(int b, int i) {
-        if (i < 0 || i >= entries(b)) {
-            entries(b);
+        int count = entries(b);
+        if (i < 0 || i >= count) {
             throw new IndexOutOfBoundsException();
         }
         return block(b).get(i).key().intValue();

@@ -7,8 +7,11 @@ final class WriteTest {
 
     public static void main(String[] args) {
         byHand();
-        for (int count : new int[] {0, 1, 7, 8, 9, 15, 16, 17, 24, 31, 80}) {
+        for (int count : new int[] {0, 1, 7, 8, 9, 15, 16, 17, 24, 25, 80}) {
             asBuilt("close " + count, count, -40, 1, 3);
+        }
+        // Every byte is a call, and an object is good for 512 of them.
+        for (int count : new int[] {1, 7, 8, 9, 16, 17, 24, 25}) {
             asBuilt("wide " + count, count, Integer.MIN_VALUE, 50_000_000, 0x123456789ABCDL);
         }
         edgesOfKeysAndValues();
