@@ -54,6 +54,12 @@ final class Bytes {
         return run;
     }
 
+    static SortedRun opened(byte[] bytes) {
+        SortedRun run = load(bytes);
+        run.open();
+        return run;
+    }
+
     Bytes raw(int... bytes) {
         for (int b : bytes) {
             out.write(b);
@@ -76,6 +82,26 @@ final class Bytes {
         return this;
     }
 
+    /** The NUMBER in so many bytes, be they more than it needs. */
+    Bytes number(long number, int length) {
+        long rest = number;
+        for (int i = 1; i < length; i++) {
+            out.write((int) (rest & 127) | 128);
+            rest >>>= 7;
+        }
+        out.write((int) (rest & 127));
+        return this;
+    }
+
+    /** A NUMBER of ten bytes: nine of these, with 128 more, and this last one. */
+    Bytes tenBytes(int nine, int last) {
+        for (int i = 0; i < 9; i++) {
+            out.write(nine | 128);
+        }
+        out.write(last);
+        return this;
+    }
+
     /** The SUM of all bytes so far. */
     Bytes summed() {
         CRC32 crc = new CRC32();
@@ -86,6 +112,15 @@ final class Bytes {
 
     Bytes copy() {
         return new Bytes().bytes(this);
+    }
+
+    /** With this bit of byte i the other way round. */
+    Bytes flipped(int i, int bit) {
+        byte[] all = array();
+        all[i] ^= (byte) (1 << bit);
+        Bytes made = new Bytes();
+        made.out.writeBytes(all);
+        return made;
     }
 
     int length() {

@@ -2,8 +2,17 @@ import java.util.function.LongSupplier;
 
 /** Counts and prints the calls whose answer is not the one that is due. */
 final class Check {
+    private String sentence = "";
     private int calls;
+    private int callsBeforeSentence = -1;
     private int wrong;
+
+    /** The words of the document that the checks from here on are about. */
+    void sentence(String words) {
+        endSentence();
+        sentence = "\"" + words + "\": ";
+        callsBeforeSentence = calls;
+    }
 
     void answers(String call, long due, LongSupplier made) {
         String got;
@@ -26,6 +35,16 @@ final class Check {
         same(call, due.getName(), got);
     }
 
+    void accepts(String call, Runnable made) {
+        String got = "no exception";
+        try {
+            made.run();
+        } catch (RuntimeException e) {
+            got = e.getClass().getName();
+        }
+        same(call, "no exception", got);
+    }
+
     void holds(String what, boolean is) {
         same(what, "true", Boolean.toString(is));
     }
@@ -34,7 +53,7 @@ final class Check {
         calls++;
         if (!due.equals(got)) {
             wrong++;
-            System.out.println(call + ": due is " + due + ", got " + got);
+            System.out.println(sentence + call + ": due is " + due + ", got " + got);
         }
     }
 
@@ -47,9 +66,17 @@ final class Check {
     }
 
     void end() {
+        endSentence();
         System.out.println(calls + " checks, " + wrong + " wrong");
         if (wrong != 0 || calls == 0) {
             System.exit(1);
+        }
+    }
+
+    /** A sentence without a check would look as if it were tested. */
+    private void endSentence() {
+        if (calls == callsBeforeSentence) {
+            same("checks", "some", "none");
         }
     }
 }
