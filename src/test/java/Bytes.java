@@ -54,6 +54,25 @@ final class Bytes {
         return run;
     }
 
+    /** The same for a long table that is mostly of zeroes: only its other bytes are damaged. */
+    static SortedRun loadOverZeroes(byte[] bytes) {
+        SortedRun run = new SortedRun();
+        Model model = new Model();
+        for (int key = 0; key < 280; key++) {
+            run.add(key, 0);
+            model.add(key, 0);
+        }
+        run.write();
+        model.write();
+        for (int i = 0; i < bytes.length; i++) {
+            if (model.at(i) != (bytes[i] & 255)) {
+                run.damage(i, bytes[i]);
+            }
+        }
+        run.cut(bytes.length);
+        return run;
+    }
+
     static SortedRun opened(byte[] bytes) {
         SortedRun run = load(bytes);
         run.open();

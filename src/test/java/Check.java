@@ -2,10 +2,29 @@ import java.util.function.LongSupplier;
 
 /** Counts and prints the calls whose answer is not the one that is due. */
 final class Check {
-    private String sentence = "";
+    private static final long MOST_SECONDS = 300;
+
+    private volatile String sentence = "";
     private int calls;
     private int callsBeforeSentence = -1;
     private int wrong;
+
+    Check() {
+        Thread watch = new Thread(this::watch);
+        watch.setDaemon(true);
+        watch.start();
+    }
+
+    /** A call that does not end is as wrong as one that answers wrong. */
+    private void watch() {
+        try {
+            Thread.sleep(1000 * MOST_SECONDS);
+        } catch (InterruptedException e) {
+            return;
+        }
+        System.out.println(sentence + "no end after " + MOST_SECONDS + " seconds");
+        Runtime.getRuntime().halt(1);
+    }
 
     /** The words of the document that the checks from here on are about. */
     void sentence(String words) {

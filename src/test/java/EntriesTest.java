@@ -8,6 +8,7 @@ final class EntriesTest {
         closed();
         noSuchBlock();
         notRight();
+        tooShortForASum();
         CHECK.end();
     }
 
@@ -51,6 +52,12 @@ final class EntriesTest {
             SortedRun run = Bytes.opened(Bytes.oneBlock(-1, body.summed()));
             CHECK.answers("a block of " + count, count, () -> run.entries(0));
         }
+        SortedRun many = Bytes.loadOverZeroes(
+                Bytes.oneBlock(0, Bytes.of(new int[2 * 345]).summed()));
+        CHECK.answers("open", 1, many::open);
+        CHECK.answers("a block of 345", 345, () -> many.entries(0));
+        CHECK.answers("the last key of 345", 344, () -> many.key(0, 344));
+        CHECK.answers("the last value of 345", 0, () -> many.get(344));
         SortedRun wide = Bytes.opened(Bytes.oneBlock(-1,
                 new Bytes().tenBytes(127, 1).tenBytes(127, 1).tenBytes(127, 1).tenBytes(127, 1)
                         .summed()));
@@ -115,5 +122,26 @@ final class EntriesTest {
             CHECK.answers(what + ", but not the one before", 1, () -> run.entries(0));
             CHECK.answers(what + ", but not the one behind", 1, () -> run.entries(2));
         });
+    }
+
+    /** Four bytes of 0 are a right SUM of no bytes, but not if they begin before the BLOCK. */
+    private static void tooShortForASum() {
+        CHECK.sentence("ArithmeticException if it is not right");
+        Bytes bare = new Bytes().summed();
+        for (int length = 0; length < 4; length++) {
+            Bytes small = Bytes.of(new int[length]);
+            SortedRun first = Bytes.opened(Bytes.oneBlock(5, small));
+            CHECK.refuses("the first has " + length, ArithmeticException.class,
+                    () -> first.entries(0));
+            CHECK.refuses("get in one of " + length, ArithmeticException.class,
+                    () -> first.get(5));
+            SortedRun second = Bytes.opened(
+                    Bytes.table(Bytes.numbers(2, 4, 0, length, 10), bare, small));
+            CHECK.answers("the one before", 0, () -> second.entries(0));
+            CHECK.refuses("the second has " + length, ArithmeticException.class,
+                    () -> second.entries(1));
+            CHECK.refuses("key of one of " + length, ArithmeticException.class,
+                    () -> second.key(1, 0));
+        }
     }
 }
