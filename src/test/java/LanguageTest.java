@@ -14,7 +14,7 @@ import java.util.Map;
 import java.util.Set;
 import java.util.TreeSet;
 
-/** Those rules of LANGUAGE.md that can be seen from outside, and the room that an object takes. */
+/** Some rules of LANGUAGE.md, as far as reflection shows them, and the room an object takes. */
 final class LanguageTest {
     private static final Check CHECK = new Check();
     private static final Path SOURCE = Path.of("src/main/java/SortedRun.java");
